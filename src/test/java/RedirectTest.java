@@ -143,7 +143,7 @@ public final class RedirectTest {
             checks.same("a redirect must pass", Checks.outcome(desk, 0, 8, 1, 0, 1, 0, redirects), -3);
             checks.told("a redirect must pass", desk, 3, 1, 8, 0, 1);
         }
-        checks.same("same origin meets a far round", Checks.outcome(desk, 1, 8, 0, 0, 0, 0, 0), 0);
+        checks.same("same origin is led within its own", Checks.outcome(desk, 1, 8, 0, 0, 0, 0, 0), 0);
         desk.serve(9, 301, 0, 0);
         checks.same("same origin is led away", Checks.outcome(desk, 1, 8, 1, 0, 0, 1, 0), -1);
         checks.told("same origin is led away", desk, 1, 3, 0, 1, 0, 0, 0, 0, 0, 0);
