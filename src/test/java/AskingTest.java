@@ -19,19 +19,10 @@ public final class AskingTest {
         checks.end();
     }
 
-    private static FetchDesk open(int age) {
-        FetchDesk desk = new FetchDesk();
-        for (int url = 8; url < 24; url++) {
-            desk.allow(url, 127, true);
-            desk.asked(url, true, 15, 15, age);
-        }
-        return desk;
-    }
-
     private static void whenItIsAsked(Checks checks) {
         for (int method = 0; method < 4; method++) {
             for (int headers = 0; headers < 16; headers++) {
-                FetchDesk desk = open(0);
+                FetchDesk desk = Desks.open(0);
                 checks.same("fetch", Checks.outcome(desk, 0, 8, method, headers, 1, 0, 0), 1);
                 int times = method > 1 || headers > 0 ? 1 : 0;
                 checks.counts("method " + method + ", headers " + headers, desk, 1, 0, 1, times, 0, 0);
@@ -59,7 +50,7 @@ public final class AskingTest {
                 checks.same("method " + method + " with " + bits, Checks.outcome(desk, 0, 8, method, 1, 1, 0, 0), good ? 1 : -2);
             }
         }
-        FetchDesk closed = open(5);
+        FetchDesk closed = Desks.open(5);
         closed.asked(8, false, 15, 15, 5);
         checks.same("not OK", Checks.outcome(closed, 0, 8, 2, 1, 1, 2, 0), -2);
         checks.told("not OK", closed, 2, 1, 8, 0, 2, 1, 0, 0, 0, 0);
@@ -67,7 +58,7 @@ public final class AskingTest {
     }
 
     private static void itMustPass(Checks checks) {
-        FetchDesk desk = open(5);
+        FetchDesk desk = Desks.open(5);
         desk.allow(8, 254, false);
         checks.same("all, not sent", Checks.outcome(desk, 0, 8, 2, 0, 1, 1, 0), 1);
         checks.same("all, sent", Checks.outcome(desk, 0, 8, 2, 0, 1, 2, 0), -2);
@@ -81,7 +72,7 @@ public final class AskingTest {
     }
 
     private static void rememberedForItsOwn(Checks checks) {
-        FetchDesk desk = open(5);
+        FetchDesk desk = Desks.open(5);
         desk.fetch(0, 8, 2, 0, 1, 0, 0);
         desk.fetch(0, 8, 2, 0, 1, 1, 0);
         checks.counts("omit and far same origin are one", desk, 2, 0, 2, 1, 1, 1);
@@ -98,12 +89,12 @@ public final class AskingTest {
     }
 
     private static void rememberedTillItsEnd(Checks checks) {
-        FetchDesk desk = open(5);
+        FetchDesk desk = Desks.open(5);
         desk.fetch(0, 8, 2, 0, 1, 0, 0);
         desk.tick(4.999);
         desk.fetch(0, 8, 2, 0, 1, 0, 0);
         checks.counts("before the end", desk, 2, 0, 2, 1, 1, 1);
-        FetchDesk other = open(5);
+        FetchDesk other = Desks.open(5);
         other.fetch(0, 8, 2, 0, 1, 0, 0);
         other.tick(5);
         checks.same("it stays after its end", other.count(5), 1);
@@ -113,7 +104,7 @@ public final class AskingTest {
     }
 
     private static void rememberedAsAnswered(Checks checks) {
-        FetchDesk desk = open(5);
+        FetchDesk desk = Desks.open(5);
         desk.asked(8, true, 4, 6, 5);
         desk.fetch(0, 8, 2, 0, 1, 0, 0);
         desk.fetch(0, 8, 2, 6, 1, 0, 0);
@@ -133,7 +124,7 @@ public final class AskingTest {
     }
 
     private static void forgottenWhenAskedAgain(Checks checks) {
-        FetchDesk desk = open(5);
+        FetchDesk desk = Desks.open(5);
         desk.asked(8, true, 4, 0, 5);
         desk.fetch(0, 8, 2, 0, 1, 0, 0);
         desk.fetch(0, 9, 2, 0, 1, 0, 0);
@@ -157,7 +148,7 @@ public final class AskingTest {
     private static void tenSecondsAtMost(Checks checks) {
         double[] ages = {0.125, 9.875, 10, 10.125, 100};
         for (double age : ages) {
-            FetchDesk desk = open(0);
+            FetchDesk desk = Desks.open(0);
             desk.tick(2);
             desk.asked(8, true, 15, 15, age);
             desk.fetch(0, 8, 2, 0, 1, 0, 0);
@@ -165,47 +156,42 @@ public final class AskingTest {
         }
     }
 
-    private static void remember(FetchDesk desk, int url, double age) {
-        desk.asked(url, true, 15, 15, age);
-        desk.fetch(0, url, 2, 0, 1, 0, 0);
-    }
-
     private static void sixAtMost(Checks checks) {
-        FetchDesk desk = open(0);
+        FetchDesk desk = Desks.open(0);
         double[] ages = {5, 6, 7, 2, 8, 9};
         for (int i = 0; i < 6; i++) {
-            remember(desk, 8 + i, ages[i]);
+            Desks.remember(desk, 8 + i, ages[i]);
         }
         checks.keptUrls("six", desk, 8, 9, 10, 11, 12, 13);
         desk.tick(3);
         checks.keptUrls("the ended one stays", desk, 8, 9, 10, 11, 12, 13);
-        remember(desk, 14, 1);
+        Desks.remember(desk, 14, 1);
         checks.keptUrls("the one that ends first goes", desk, 8, 9, 10, 12, 13, 14);
-        remember(desk, 15, 10);
+        Desks.remember(desk, 15, 10);
         checks.keptUrls("even if it is the youngest", desk, 8, 9, 10, 12, 13, 15);
-        remember(desk, 16, 10);
+        Desks.remember(desk, 16, 10);
         checks.keptUrls("or the oldest", desk, 9, 10, 12, 13, 15, 16);
     }
 
     private static void firstOfSeveralGoes(Checks checks) {
-        FetchDesk desk = open(0);
+        FetchDesk desk = Desks.open(0);
         double[] ages = {9, 4, 9, 4, 4, 9};
         for (int i = 0; i < 6; i++) {
-            remember(desk, 8 + i, ages[i]);
+            Desks.remember(desk, 8 + i, ages[i]);
         }
-        remember(desk, 14, 8);
+        Desks.remember(desk, 14, 8);
         checks.keptUrls("the first of those that end together", desk, 8, 10, 11, 12, 13, 14);
-        remember(desk, 15, 8);
+        Desks.remember(desk, 15, 8);
         checks.keptUrls("then the second", desk, 8, 10, 12, 13, 14, 15);
     }
 
     private static void forgettingMakesRoom(Checks checks) {
-        FetchDesk desk = open(0);
+        FetchDesk desk = Desks.open(0);
         for (int i = 0; i < 6; i++) {
-            remember(desk, 8 + i, 4 + i);
+            Desks.remember(desk, 8 + i, 4 + i);
         }
         desk.tick(9.5);
-        remember(desk, 10, 7);
+        Desks.remember(desk, 10, 7);
         checks.keptUrls("none of the others goes", desk, 8, 9, 11, 12, 13, 10);
         for (int i = 0; i < 6; i++) {
             int end = new int[] {4, 5, 7, 8, 9, 16}[i];
@@ -214,7 +200,7 @@ public final class AskingTest {
     }
 
     private static void unknownIsNotRemembered(Checks checks) {
-        FetchDesk desk = open(5);
+        FetchDesk desk = Desks.open(5);
         desk.serve(8, 307, 0, 16);
         desk.fetch(0, 8, 2, 1, 1, 0, 0);
         checks.told("led to an unknown origin", desk, 0, 2, 16, 6, 2);
@@ -232,7 +218,7 @@ public final class AskingTest {
     }
 
     private static void rememberedMustStillPass(Checks checks) {
-        FetchDesk desk = open(5);
+        FetchDesk desk = Desks.open(5);
         desk.fetch(0, 8, 2, 1, 1, 2, 0);
         desk.allow(8, 1, false);
         checks.same("not allowed any more", Checks.outcome(desk, 0, 8, 2, 1, 1, 2, 0), -3);
@@ -240,7 +226,7 @@ public final class AskingTest {
     }
 
     private static void askedInEveryRound(Checks checks) {
-        FetchDesk desk = open(5);
+        FetchDesk desk = Desks.open(5);
         desk.serve(8, 308, 0, 9);
         desk.serve(9, 307, 0, 8);
         checks.same("round and round", Checks.outcome(desk, 0, 8, 3, 1, 1, 0, 0), -5);

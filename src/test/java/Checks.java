@@ -1,3 +1,7 @@
+import java.util.function.Consumer;
+import java.util.function.DoubleConsumer;
+import java.util.function.IntConsumer;
+
 /** What the tests share: comparing answers, and ending with exit code 1 if one was wrong. */
 final class Checks {
     static final Class<IllegalArgumentException> ILLEGAL = IllegalArgumentException.class;
@@ -5,10 +9,22 @@ final class Checks {
     static final Class<UnsupportedOperationException> ERROR = UnsupportedOperationException.class;
 
     private final String title;
+    private String sentence = "";
     private int wrong = 0;
 
     Checks(String title) {
         this.title = title;
+    }
+
+    /** Runs the test of one sentence of the document; what it throws without being awaited is told as wrong, too. */
+    void sentence(String words, Consumer<Checks> test) {
+        sentence = "'" + words + "': ";
+        try {
+            test.accept(this);
+        } catch (RuntimeException thrown) {
+            tell("threw " + thrown + ", which nobody awaited, at " + thrown.getStackTrace()[0]);
+        }
+        sentence = "";
     }
 
     void same(String what, long got, long due) {
@@ -32,6 +48,20 @@ final class Checks {
         }
         if (!got.equals(due.getName())) {
             tell(what + " threw " + got + ", due is " + due.getName());
+        }
+    }
+
+    /** Each of these numbers is no argument for the call. */
+    void refusesEach(String what, int[] numbers, IntConsumer call) {
+        for (int number : numbers) {
+            refuses(what + " with " + number, ILLEGAL, () -> call.accept(number));
+        }
+    }
+
+    /** Each of these numbers is no argument for the call. */
+    void refusesEach(String what, double[] numbers, DoubleConsumer call) {
+        for (double number : numbers) {
+            refuses(what + " with " + number, ILLEGAL, () -> call.accept(number));
         }
     }
 
@@ -84,7 +114,7 @@ final class Checks {
     private void tell(String text) {
         wrong++;
         if (wrong <= 20) {
-            System.out.println(title + ": " + text);
+            System.out.println(title + ": " + sentence + text);
         }
     }
 }

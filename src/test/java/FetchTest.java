@@ -1,50 +1,13 @@
-/** Promise 7 within one ROUND: wrong numbers, modes, credentials, who passes, sorts. */
+/** Promise 7 within one ROUND: modes, credentials, who passes, sorts. */
 public final class FetchTest {
     public static void main(String[] args) {
         Checks checks = new Checks("fetch");
-        wrongNumbers(checks);
-        noCorsIsPlain(checks);
         near(checks);
         sameOriginStaysNear(checks);
         whoPasses(checks);
         noCorsShowsNothing(checks);
         credentialsSent(checks);
         checks.end();
-    }
-
-    private static void wrongNumbers(Checks checks) {
-        int[] least = {0, 0, 0, 0, 0, 0, 0};
-        int[] tooGreat = {6, 48, 4, 16, 3, 3, 3};
-        FetchDesk desk = new FetchDesk();
-        for (int i = 0; i < 7; i++) {
-            for (int number : new int[] {-1, tooGreat[i], Integer.MIN_VALUE, Integer.MAX_VALUE}) {
-                int[] a = least.clone();
-                a[i] = number;
-                checks.refuses("argument " + i + " of " + number, Checks.ILLEGAL,
-                        () -> desk.fetch(a[0], a[1], a[2], a[3], a[4], a[5], a[6]));
-            }
-        }
-        checks.counts("after wrong numbers", desk, 0, 0, 0, 0, 0, 0);
-        checks.same("the greatest numbers", Checks.outcome(desk, 5, 47, 3, 15, 1, 2, 2), 0);
-    }
-
-    private static void noCorsIsPlain(Checks checks) {
-        for (int method = 0; method < 4; method++) {
-            for (int headers = 0; headers < 16; headers++) {
-                for (int url = 0; url < 16; url += 8) {
-                    FetchDesk desk = new FetchDesk();
-                    int m = method;
-                    int h = headers;
-                    int u = url;
-                    String what = "no cors, method " + m + ", headers " + h + ", URL " + u;
-                    if (m < 2 && h == 0) {
-                        checks.same(what, Checks.outcome(desk, 0, u, m, h, 2, 0, 0), u == 0 ? 0 : 2);
-                    } else {
-                        checks.refuses(what, Checks.ILLEGAL, () -> desk.fetch(0, u, m, h, 2, 0, 0));
-                    }
-                }
-            }
-        }
     }
 
     private static void near(Checks checks) {

@@ -1,18 +1,11 @@
-/** Promises 2 to 5: what is set for a RESOURCE holds from then on, and wrong numbers change nothing. */
+/** Promises 2 to 5: what is set for a RESOURCE holds from then on. */
 public final class SettingsTest {
-    private static final int[] WRONG_URLS = {-1, 48, Integer.MIN_VALUE, Integer.MAX_VALUE};
-    private static final int[] WRONG_BITS = {-1, 16, Integer.MIN_VALUE, Integer.MAX_VALUE};
-
     public static void main(String[] args) {
         Checks checks = new Checks("settings");
         serveHolds(checks);
-        serveRefuses(checks);
         headersHold(checks);
-        headersRefuse(checks);
         allowHolds(checks);
-        allowRefuses(checks);
         askedHolds(checks);
-        askedRefuses(checks);
         checks.end();
     }
 
@@ -34,22 +27,6 @@ public final class SettingsTest {
         checks.same("the target 0 is followed", desk.told(2), 0);
     }
 
-    private static void serveRefuses(Checks checks) {
-        FetchDesk desk = new FetchDesk();
-        desk.serve(3, 404, 5, -1);
-        for (int url : WRONG_URLS) {
-            checks.refuses("serve of URL " + url, Checks.ILLEGAL, () -> desk.serve(url, 200, 0, -1));
-        }
-        for (int status : new int[] {199, 600, 0, -200, Integer.MIN_VALUE, Integer.MAX_VALUE}) {
-            checks.refuses("serve with status " + status, Checks.ILLEGAL, () -> desk.serve(3, status, 0, -1));
-        }
-        for (int target : new int[] {-2, 48, Integer.MIN_VALUE, Integer.MAX_VALUE}) {
-            checks.refuses("serve with target " + target, Checks.ILLEGAL, () -> desk.serve(3, 301, 0, target));
-        }
-        desk.fetch(0, 3, 0, 0, 0, 0, 0);
-        checks.told("after refusals", desk, 0, 1, 3, 0, 0, 0, 404, 5);
-    }
-
     private static void headersHold(Checks checks) {
         FetchDesk desk = null;
         for (int bits = 0; bits < 256; bits++) {
@@ -67,20 +44,6 @@ public final class SettingsTest {
         }
     }
 
-    private static void headersRefuse(Checks checks) {
-        FetchDesk desk = new FetchDesk();
-        desk.headers(0, 9, 6);
-        for (int url : WRONG_URLS) {
-            checks.refuses("headers of URL " + url, Checks.ILLEGAL, () -> desk.headers(url, 0, 0));
-        }
-        for (int bits : WRONG_BITS) {
-            checks.refuses("headers given " + bits, Checks.ILLEGAL, () -> desk.headers(0, bits, 0));
-            checks.refuses("headers exposed " + bits, Checks.ILLEGAL, () -> desk.headers(0, 0, bits));
-        }
-        desk.fetch(0, 0, 0, 0, 0, 0, 0);
-        checks.same("headers after refusals", desk.told(8), 9);
-    }
-
     private static void allowHolds(Checks checks) {
         FetchDesk desk = new FetchDesk();
         int before = 0;
@@ -89,19 +52,6 @@ public final class SettingsTest {
             before = origins;
         }
         checks.same("another URL has its own", desk.allow(46, 1, true), 0);
-    }
-
-    private static void allowRefuses(Checks checks) {
-        FetchDesk desk = new FetchDesk();
-        desk.allow(8, 5, true);
-        for (int url : WRONG_URLS) {
-            checks.refuses("allow of URL " + url, Checks.ILLEGAL, () -> desk.allow(url, 0, false));
-        }
-        for (int origins : new int[] {-1, 256, Integer.MIN_VALUE, Integer.MAX_VALUE}) {
-            checks.refuses("allow " + origins, Checks.ILLEGAL, () -> desk.allow(8, origins, false));
-        }
-        checks.same("credentials after refusals", Checks.outcome(desk, 0, 8, 0, 0, 1, 2, 0), 1);
-        checks.same("origins after refusals", desk.allow(8, 0, false), 5);
     }
 
     private static void askedHolds(Checks checks) {
@@ -116,26 +66,5 @@ public final class SettingsTest {
         desk.asked(8, true, 15, 15, 0);
         checks.same("DELETE, OK again", Checks.outcome(desk, 0, 8, 3, 1, 1, 0, 0), 1);
         checks.same("age 0 is not remembered", desk.count(5), 0);
-    }
-
-    private static void askedRefuses(Checks checks) {
-        FetchDesk desk = new FetchDesk();
-        desk.allow(8, 128, false);
-        desk.asked(8, true, 8, 2, 3);
-        for (int url : WRONG_URLS) {
-            checks.refuses("asked of URL " + url, Checks.ILLEGAL, () -> desk.asked(url, false, 0, 0, 0));
-        }
-        for (int bits : WRONG_BITS) {
-            checks.refuses("asked methods " + bits, Checks.ILLEGAL, () -> desk.asked(8, false, bits, 0, 0));
-            checks.refuses("asked headers " + bits, Checks.ILLEGAL, () -> desk.asked(8, false, 0, bits, 0));
-        }
-        double[] ages = {-0.001, -1, 100.001, 101, Double.NaN, Double.POSITIVE_INFINITY, Double.NEGATIVE_INFINITY,
-            -Double.MIN_VALUE, Double.MAX_VALUE};
-        for (double age : ages) {
-            checks.refuses("asked age " + age, Checks.ILLEGAL, () -> desk.asked(8, false, 0, 0, age));
-        }
-        checks.same("after refusals", Checks.outcome(desk, 0, 8, 3, 2, 1, 0, 0), 1);
-        checks.kept("after refusals", desk, 0, 0, 8, 0, 8, 2, 1);
-        checks.sameDouble("age after refusals", desk.left(0), 3);
     }
 }

@@ -1,16 +1,11 @@
-/** Promises 8 to 12: told, kept, left, count, and in which order things are seen. */
+/** Promises 8 to 11: told, kept, left, count. */
 public final class TellingTest {
     public static void main(String[] args) {
         Checks checks = new Checks("telling");
         toldOfTheLatest(checks);
-        toldRefuses(checks);
         keptOfEach(checks);
-        keptRefuses(checks);
         leftOfEach(checks);
-        leftRefuses(checks);
         countsOfUrls(checks);
-        countRefuses(checks);
-        refusedFetchChangesNothing(checks);
         checks.end();
     }
 
@@ -30,13 +25,6 @@ public final class TellingTest {
         checks.told("it was told as it was then", desk, 0, 1, 40, 5, 3, 0, 404, -7, 12, 0);
         checks.same("asked in vain", Checks.outcome(desk, 3, 40, 2, 0, 1, 2, 0), -2);
         checks.told("sent, though it did not come to that", desk, 2, 1, 40, 3, 2, 1, 0, 0, 0, 0);
-    }
-
-    private static void toldRefuses(Checks checks) {
-        FetchDesk desk = new FetchDesk();
-        for (int what : new int[] {-1, 10, Integer.MIN_VALUE, Integer.MAX_VALUE}) {
-            checks.refuses("told(" + what + ")", Checks.ILLEGAL, () -> desk.told(what));
-        }
     }
 
     private static FetchDesk remembering() {
@@ -62,21 +50,6 @@ public final class TellingTest {
         checks.kept("the second, ended", desk, 1, 5, 0, 0, 7, 5, 0);
     }
 
-    private static void keptRefuses(Checks checks) {
-        FetchDesk desk = remembering();
-        for (int i : new int[] {-1, 2, 6, Integer.MIN_VALUE, Integer.MAX_VALUE}) {
-            for (int what = 0; what < 6; what++) {
-                int w = what;
-                checks.refuses("kept(" + i + ", " + w + ")", Checks.NO_SUCH, () -> desk.kept(i, w));
-            }
-            for (int what : new int[] {-1, 6, Integer.MIN_VALUE, Integer.MAX_VALUE}) {
-                checks.refuses("kept(" + i + ", " + what + ")", Checks.ILLEGAL, () -> desk.kept(i, what));
-                checks.refuses("kept(0, " + what + ")", Checks.ILLEGAL, () -> desk.kept(0, what));
-            }
-        }
-        checks.refuses("kept of a new object", Checks.NO_SUCH, () -> new FetchDesk().kept(0, 0));
-    }
-
     private static void leftOfEach(Checks checks) {
         FetchDesk desk = remembering();
         checks.sameDouble("the first", desk.left(0), 1.5);
@@ -87,14 +60,6 @@ public final class TellingTest {
         desk.tick(1000);
         checks.sameDouble("the first after its end", desk.left(0), 0);
         checks.sameDouble("the second after its end", desk.left(1), 0);
-    }
-
-    private static void leftRefuses(Checks checks) {
-        FetchDesk desk = remembering();
-        for (int i : new int[] {-1, 2, 6, Integer.MIN_VALUE, Integer.MAX_VALUE}) {
-            checks.refuses("left(" + i + ")", Checks.NO_SUCH, () -> desk.left(i));
-        }
-        checks.refuses("left of a new object", Checks.NO_SUCH, () -> new FetchDesk().left(0));
     }
 
     private static void countsOfUrls(Checks checks) {
@@ -115,28 +80,5 @@ public final class TellingTest {
         checks.same("46 was requested", desk.count(56), 4);
         checks.same("46 was requested with credentials", desk.count(106), 3);
         checks.same("45 was asked, not requested", desk.count(55), 3);
-    }
-
-    private static void countRefuses(Checks checks) {
-        FetchDesk desk = new FetchDesk();
-        for (int what : new int[] {-1, 6, 7, 8, 9, 58, 59, 108, 109, Integer.MIN_VALUE, Integer.MIN_VALUE + 15,
-            Integer.MIN_VALUE + 65, Integer.MAX_VALUE}) {
-            checks.refuses("count(" + what + ")", Checks.ILLEGAL, () -> desk.count(what));
-        }
-    }
-
-    private static void refusedFetchChangesNothing(Checks checks) {
-        FetchDesk desk = remembering();
-        int[][] refused = {{6, 0, 0, 0, 0, 0, 0}, {0, 48, 0, 0, 0, 0, 0}, {0, 0, 4, 0, 0, 0, 0}, {0, 0, 0, 16, 0, 0, 0},
-            {0, 0, 0, 0, 3, 0, 0}, {0, 0, 0, 0, 0, 3, 0}, {0, 0, 0, 0, 0, 0, 3}, {0, 0, 2, 0, 2, 0, 0},
-            {0, 8, 0, 1, 2, 0, 0}};
-        for (int[] a : refused) {
-            checks.refuses("a refused fetch", Checks.ILLEGAL,
-                    () -> desk.fetch(a[0], a[1], a[2], a[3], a[4], a[5], a[6]));
-        }
-        checks.told("after refusals", desk, 0, 1, 0, 5, 0, 0, 200, 0, 0, 1);
-        checks.counts("after refusals", desk, 2, 0, 2, 2, 0, 2);
-        checks.same("an error's round counts", Checks.outcome(desk, 1, 0, 0, 0, 0, 0, 0), -1);
-        checks.same("an error's round counts", desk.told(1), 1);
     }
 }
