@@ -9,16 +9,17 @@ import java.util.TreeSet;
 /** The document's face and rule 1 of the language: these members are public, and no other is seen from outside. */
 public final class FaceTest {
     private static final String[] FACE = {
-        "void serve(int, int, int, int)",
-        "void headers(int, int, int)",
-        "int allow(int, int, boolean)",
-        "void asked(int, boolean, int, int, double)",
-        "double tick(double)",
-        "int fetch(int, int, int, int, int, int, int)",
-        "int told(int)",
-        "int kept(int, int)",
-        "double left(int)",
-        "int count(int)",
+        "public void FetchDesk.serve(int,int,int,int) throws IllegalArgumentException",
+        "public void FetchDesk.headers(int,int,int) throws IllegalArgumentException",
+        "public int FetchDesk.allow(int,int,boolean) throws IllegalArgumentException",
+        "public void FetchDesk.asked(int,boolean,int,int,double) throws IllegalArgumentException",
+        "public double FetchDesk.tick(double) throws IllegalArgumentException",
+        "public int FetchDesk.fetch(int,int,int,int,int,int,int)"
+                + " throws IllegalArgumentException,UnsupportedOperationException",
+        "public int FetchDesk.told(int) throws IllegalArgumentException",
+        "public int FetchDesk.kept(int,int) throws IllegalArgumentException,IndexOutOfBoundsException",
+        "public double FetchDesk.left(int) throws IndexOutOfBoundsException",
+        "public int FetchDesk.count(int) throws IllegalArgumentException",
     };
 
     public static void main(String[] args) {
@@ -30,7 +31,7 @@ public final class FaceTest {
             if (Modifier.isPrivate(method.getModifiers())) {
                 privateNames.add(method.getName());
             } else {
-                seen.add(Modifier.isPublic(method.getModifiers()) ? signature(method) : "not public: " + method);
+                seen.add(method.toString().replace("java.lang.", ""));
                 publicNames.add(method.getName());
             }
         }
@@ -52,11 +53,5 @@ public final class FaceTest {
             checks.same(inside + " is not public", inside.getModifiers() & Modifier.PUBLIC, 0);
         }
         checks.end();
-    }
-
-    private static String signature(Method method) {
-        String parameters = Arrays.toString(method.getParameterTypes());
-        return method.getReturnType() + " " + method.getName() + "("
-                + parameters.substring(1, parameters.length() - 1) + ")";
     }
 }

@@ -7,6 +7,7 @@ public final class ModelRunsTest {
     private static final int CALLS = 512;
     private static final int[] STATUSES = {200, 301, 302, 303, 307, 308, 304, 599};
     private static final int[] FEW_URLS = {0, 1, 8, 9, 16, 47};
+    private static final int OPENING_CALLS = 2 * FEW_URLS.length;
     private static final double[] AGES = {0, 0.125, 1, 3, 9.5, 10, 10.5, 100, 0.1, 7.3};
     private static final double[] SECONDS = {0.125, 0.5, 1, 2.5, 10, 0.1, 0.3};
     private static final double[] WRONG_DOUBLES = {-1, 0, 100, 1000, 1000.5, Double.NaN, Double.POSITIVE_INFINITY};
@@ -26,7 +27,7 @@ public final class ModelRunsTest {
         for (int run = 0; run < RUNS; run++) {
             ModelRunsTest test = new ModelRunsTest(run);
             test.openSomeUrls();
-            for (int i = 0; i < CALLS - 4 * FEW_URLS.length; i++) {
+            for (int i = OPENING_CALLS + 1; i <= CALLS; i++) {
                 String got = test.oneCall();
                 if (!got.equals(test.due)) {
                     System.out.println("run " + run + ", call " + i + ": " + test.call + " answered " + got + ", due is "
